@@ -29,7 +29,7 @@ final class FaceTest {
         Checks checks = new Checks();
         constants(checks);
         members(checks);
-        classesInside(checks);
+        namesAndClassesInside(checks);
         source(checks, Files.readString(Path.of(args[0])));
         checks.finish("FaceTest");
     }
@@ -42,7 +42,8 @@ final class FaceTest {
         for (Field field : PricedPairs.class.getDeclaredFields()) {
             boolean constant = CONSTANTS.contains(field.getName());
             int flags = field.getModifiers();
-            checks.due(field + " is public, or it is private", constant ? Modifier.isPublic(flags) : Modifier.isPrivate(flags));
+            boolean asDue = constant ? Modifier.isPublic(flags) : Modifier.isPrivate(flags);
+            checks.due(field + " is public, or it is private", asDue);
             checks.due(field + " is final", Modifier.isFinal(flags));
         }
     }
@@ -68,10 +69,14 @@ final class FaceTest {
         checks.due("the constructor takes nothing", constructors[0].getParameterCount(), 0);
     }
 
-    private static void classesInside(Checks checks) {
+    private static void namesAndClassesInside(Checks checks) {
         Set<String> faceNames = new TreeSet<>();
         for (String method : METHODS) {
             faceNames.add(method.substring(0, method.indexOf('(')));
+        }
+        for (Method method : PricedPairs.class.getDeclaredMethods()) {
+            boolean isPrivate = Modifier.isPrivate(method.getModifiers());
+            checks.due(method + " has a name of its own", !isPrivate || !faceNames.contains(method.getName()));
         }
         Class<?>[] inside = PricedPairs.class.getDeclaredClasses();
         checks.due("at most 12 classes", inside.length < 12);

@@ -221,7 +221,7 @@ final class PromisesTest {
         due("9: times(0, 2000000001)", pairs.times(0, 2000000001), INVALID);
         due("9: times(0, 2000000000)", pairs.times(0, 2000000000), LIMIT);
         due("9: times(0, 1429)", pairs.times(0, 1429), LIMIT);
-        due("9: times(0, 1431655765), whose lowest bits are few", pairs.times(0, 1431655765), LIMIT);
+        due("9: times(0, 613566757), 3 beyond all bits of an int", pairs.times(0, 613566757), LIMIT);
         due("9: count(7)", pairs.count(7), 1);
         due("9: times(0, 1428)", pairs.times(0, 1428), 9996);
         due("9: costOf(0, 0)", pairs.costOf(0, 0), 4284);
@@ -236,6 +236,9 @@ final class PromisesTest {
         due("9: costOf(1, -1)", pairs.costOf(1, -1), 0);
         due("9: costOf(0, 1), still barred", pairs.costOf(0, 1), NOT_FOUND);
         due("9: times(0, 0)", pairs.times(0, 0), 0);
+        due("9: times(0, 1111) of the first pair", of("9,x/2").times(0, 1111), 9999);
+        due("9: times(0, 1112) of the first pair", of("9,x/2").times(0, 1112), LIMIT);
+        due("9: times(0, 1112) of the last pair", of("x,9/2").times(0, 1112), LIMIT);
         due("9: costOf(0, 1), barred all the same", pairs.costOf(0, 1), NOT_FOUND);
         due("9: costOf(0, 2)", pairs.costOf(0, 2), 0);
     }
@@ -322,6 +325,11 @@ final class PromisesTest {
         due("15: price(0, 1) of a task that all are barred from", pairs.price(0, 1), 0);
         due("15: price(1, 0), for the second of three", pairs.price(1, 0), 6);
         due("15: price(1, 1)", pairs.price(1, 1), 8);
+        pairs.dropWorker(2);
+        due("15: price(1, 0), for the first of two", pairs.price(1, 0), 0);
+        pairs.idle(0, 16);
+        due("15: price(1, 0), for the first of two who stays idle", pairs.price(1, 0), 8);
+        due("15: price(0, 0), none as before", pairs.price(0, 0), 0);
     }
 
     private static void workerIs() {
@@ -427,6 +435,8 @@ final class PromisesTest {
         for (int what = 0; what < counts.length; what++) {
             due("21: count(" + what + ")", pairs.count(what), counts[what]);
         }
+        pairs.dropWorker(1);
+        due("21: count(5) of one", pairs.count(5), 0);
         due("21: count(-1)", pairs.count(-1), INVALID);
         due("21: count(9)", pairs.count(9), INVALID);
         pairs = of("x,x,x/5;1,x,9/5");
