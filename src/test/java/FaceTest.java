@@ -1,16 +1,11 @@
-import java.io.IOException;
 import java.lang.reflect.Constructor;
 import java.lang.reflect.Field;
 import java.lang.reflect.Method;
 import java.lang.reflect.Modifier;
-import java.nio.file.Files;
-import java.nio.file.Path;
 import java.util.Set;
 import java.util.TreeSet;
-import java.util.regex.Matcher;
-import java.util.regex.Pattern;
 
-/** The document's face, and those rules of LANGUAGE.md that a glance at the program can check. */
+/** The document's face, and that nothing besides it can be seen from outside (rule 1 of the language). */
 final class FaceTest {
     private static final String[] METHODS = {
         "worker(1)", "task(0)", "dropWorker(1)", "dropTask(1)", "cost(3)", "bar(2)", "idle(2)", "times(2)", "costOf(2)",
@@ -19,18 +14,12 @@ final class FaceTest {
     };
     private static final Set<String> CONSTANTS =
         Set.of("INVALID_ARGUMENT", "NOT_POSSIBLE", "LIMIT_REACHED", "NOT_FOUND");
-    private static final String[] NOT_ALLOWED = {
-        "\\bthrow\\b", "\\bthrows\\b", "\\btry\\b", "\\bcatch\\b", "\\bsynchronized\\b", "\\bassert\\b", "->", "::",
-        "Exact\\b", "\\bpackage\\b", "\\bimport\\b", "\\bObject\\b", "\\bSystem\\.(?!arraycopy)", "\\bthis\\(",
-        "\\bequals\\b", "\\bhashCode\\b", "\\btoString\\b", "@", "[^\\x00-\\x7f]"
-    };
 
-    public static void main(String[] args) throws IOException {
+    public static void main(String[] args) {
         Checks checks = new Checks();
         constants(checks);
         members(checks);
         namesAndClassesInside(checks);
-        source(checks, Files.readString(Path.of(args[0])));
         checks.finish("FaceTest");
     }
 
@@ -78,24 +67,10 @@ final class FaceTest {
             boolean isPrivate = Modifier.isPrivate(method.getModifiers());
             checks.due(method + " has a name of its own", !isPrivate || !faceNames.contains(method.getName()));
         }
-        Class<?>[] inside = PricedPairs.class.getDeclaredClasses();
-        checks.due("at most 12 classes", inside.length < 12);
-        for (Class<?> kind : inside) {
-            checks.due(kind + " is static", Modifier.isStatic(kind.getModifiers()));
-            checks.due(kind + " isn't public", !Modifier.isPublic(kind.getModifiers()));
-            checks.due(kind + " has at most 20 fields", kind.getDeclaredFields().length <= 20);
+        for (Class<?> kind : PricedPairs.class.getDeclaredClasses()) {
             for (Method method : kind.getDeclaredMethods()) {
                 checks.due(method + " has a name of its own", !faceNames.contains(method.getName()));
             }
-        }
-    }
-
-    private static void source(Checks checks, String source) {
-        String code = Pattern.compile("/\\*.*?\\*/", Pattern.DOTALL).matcher(source).replaceAll("");
-        code = Pattern.compile("//[^\n]*").matcher(code).replaceAll("");
-        for (String pattern : NOT_ALLOWED) {
-            Matcher matcher = Pattern.compile(pattern).matcher(code);
-            checks.due("no " + pattern + " in the program", !matcher.find());
         }
     }
 

@@ -1,16 +1,25 @@
 import java.util.Arrays;
 
-/** One object and its calls, told as texts such as "cost(0, 1, 5)". No object may get more than 512 of them. */
+/** One object and its calls, told as texts such as "cost(0, 1, 5)". Unless a test says so, no object may get more than 512. */
 final class Script {
     private static final int MOST_CALLS = 512;
 
     private final PricedPairs pairs = new PricedPairs();
+    private final int mostCalls;
     private int calls;
+
+    Script() {
+        this(MOST_CALLS);
+    }
+
+    Script(int mostCalls) {
+        this.mostCalls = mostCalls;
+    }
 
     int call(String call) {
         calls++;
-        if (calls > MOST_CALLS) {
-            throw new IllegalStateException("the test itself is wrong: a call beyond the 512th, " + call);
+        if (calls > mostCalls) {
+            throw new IllegalStateException("the test itself is wrong: a call too many, " + call);
         }
         int open = call.indexOf('(');
         String inside = call.substring(open + 1, call.length() - 1).trim();
